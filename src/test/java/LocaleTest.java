@@ -7,6 +7,7 @@ final class LocaleTest {
         parents();
         rules();
         lostForms();
+        lostMarks();
         grouping();
         categories();
         widths();
@@ -46,6 +47,11 @@ final class LocaleTest {
         c.due("the same again", 1, () -> c.x.setParent(2, 1));
         c.due("none", 0, () -> c.x.setParent(1, NONE));
         c.due("none before", NONE, () -> c.x.setParent(0, 2));
+        c.due("a loop by way of locale 0", Catalog.ARGUMENT, () -> c.x.setParent(1, 0));
+        c.form(2, 0, 5, "fin");
+        c.x.untranslate(0, 0);
+        c.x.show(0, 0, 0);
+        Catalog.text("shown by way of locale 0", "fin", c.shown());
         c.due("no such locale", Catalog.BOUNDS, () -> c.x.setParent(3, NONE));
         c.due("no such locale below", Catalog.BOUNDS, () -> c.x.setParent(-1, NONE));
         c.due("no such parent", Catalog.BOUNDS, () -> c.x.setParent(0, 3));
@@ -112,6 +118,27 @@ final class LocaleTest {
         Catalog.same("forms in locale 0", 3, d.x.state(0, 0));
         d.form(1, 0, 5, "{0} f");
         Catalog.same("not marked", 0, d.x.mark(1, 0, true));
+    }
+
+    /** Whether marks without forms stay behind: the checksum is another one then. */
+    private static void lostMarks() {
+        for (int call = 0; call < 2; call++) {
+            long[] checksums = new long[2];
+            for (int i = 0; i < 2; i++) {
+                Catalog c = new Catalog();
+                c.x.mark(1, 1, i == 0);
+                for (int k = 0; k < 6; k++) {
+                    c.x.setThreshold(9);
+                }
+                if (call == 0) {
+                    c.rules(1, "");
+                } else {
+                    c.x.untranslate(1, 1);
+                }
+                checksums[i] = c.x.checksum();
+            }
+            Catalog.same("marks that stay, " + call, checksums[1], checksums[0]);
+        }
     }
 
     private static void grouping() {

@@ -67,6 +67,8 @@ final class MessageTest {
         cost("|a||", "|b||", 3);
         cost("|a||", "|A||", 1);
         cost("|a||", "|ab||", 2);
+        cost("|z||", "|Z||", 1);
+        cost("|zA||", "|Za||", 2);
         cost("|[||", "|{{||", 3);
         cost("|@||", "|`||", 3);
         cost("|1||", "|Q||", 3);

@@ -9,6 +9,7 @@ final class PadTest {
         rules();
         templates();
         templateLines();
+        afterOthers();
         fullStage();
         Catalog.end();
     }
@@ -259,6 +260,8 @@ final class PadTest {
         fault(3, "|a|b|\n|a|c|", NONE);
         fault(3, "|{0}||\n|{0:d10}||", NONE);
         fault(3, "|a||\n|b||\n|a||", 10);
+        fault(3, "|b||\n|a||\n|a||", 10);
+        fault(3, "|bb||\n|a||\n|b||\n|a||", 16);
         // Line by line.
         fault(3, "|a||\n", 5);
         fault(3, "\n|a||", 0);
@@ -268,8 +271,39 @@ final class PadTest {
         Catalog c = new Catalog().stage("m|a|b|7");
         Catalog.same("staged", 5, c.fault(3, "|a||\nm|a|b|"));
         Catalog.same("other context", NONE, c.fault(3, "|a|b|"));
+        c.stage("menu|abc|def|");
+        Catalog.same("longer texts", 0, c.fault(3, "menu|abc|def|"));
+        Catalog.same("another end of the source", NONE, c.fault(3, "menu|abd|def|"));
+        Catalog.same("another end of the plural", NONE, c.fault(3, "menu|abc|deg|"));
+        Catalog.same("another end of the context", NONE, c.fault(3, "menv|abc|def|"));
+        Catalog.same("no plural", NONE, c.fault(3, "menu|abc||"));
         c.x.unstage();
         Catalog.same("no longer staged", NONE, c.fault(3, "|a||\nm|a|b|"));
+    }
+
+    /** What was read before has no effect. */
+    private static void afterOthers() {
+        Catalog c = new Catalog();
+        Catalog.same("differing declarations", 7, c.fault(3, "|{0:d6}{0:s7}||"));
+        Catalog.same("another template", NONE, c.fault(3, "|{0:d7}||"));
+        Catalog.same("a longer text", NONE, c.fault(3, "a|b||12"));
+        for (String text : new String[] {"a", "a|", "a|b", "a|b|"}) {
+            Catalog.same("just " + text, text.length(), c.fault(3, text));
+        }
+        Catalog.same("a shorter one", NONE, c.fault(3, "a|b||"));
+        Catalog.same("longer rules", NONE, c.fault(2, "one: n = 12..34 and n != 5"));
+        Catalog.same("one rule", NONE, c.fault(2, "one: n = 1"));
+        for (String text : new String[] {"one", "one:", "one: n", "one: n ", "one: n = 1.."}) {
+            Catalog.same("just " + text, text.length(), c.fault(2, text));
+        }
+        Catalog.same("a single sign", 7, c.fault(2, "one: n !"));
+        Catalog.same("part of a name", 0, c.fault(2, "on"));
+        Catalog.same("a placeholder", NONE, c.fault(3, "|a{5}||"));
+        Catalog.same("no placeholder", NONE, c.fault(3, "|a|b|"));
+        Catalog.same("a longer pattern", NONE, c.fault(1, "{0:d12}"));
+        for (String text : new String[] {"{", "{0", "{0:", "{0:d", "{0:d1", "{0:d12"}) {
+            Catalog.same("just " + text, text.length(), c.fault(1, text));
+        }
     }
 
     private static void fullStage() {

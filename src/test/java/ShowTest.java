@@ -34,6 +34,8 @@ final class ShowTest {
         c.due("no such argument comes first", Catalog.BOUNDS, () -> c.x.setText(10));
         c.pad("a\nb");
         c.due("a line feed", Catalog.ARGUMENT, () -> c.x.setText(2));
+        c.pad("a");
+        c.due("a line feed that is gone", 0, () -> c.x.setText(4));
         c.due("nothing saved", Catalog.STATE, () -> c.x.undo());
         c.pad("{0}|}{");
         c.x.setText(2);

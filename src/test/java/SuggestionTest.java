@@ -54,6 +54,12 @@ final class SuggestionTest {
             c.due("no message " + message, Catalog.BOUNDS, () -> c.x.suggestion(0, message, 0));
             c.due("adopt, no message " + message, Catalog.BOUNDS, () -> c.x.adopt(0, message, 9));
         }
+        // The first obsolete one.
+        Catalog o = new Catalog();
+        o.x.setThreshold(0);
+        o.merge("|Save {1:s9}||");
+        o.x.setThreshold(60);
+        list(o, 0, 0, 100);
         // Partial ones are no suggestions.
         Catalog d = new Catalog().merge("|abcdefgh|abcdefgh|").form(0, 0, 5, "x");
         d.merge("|abcdefgh|abcdefgh|\n|abcdefgh|abcdefgH|");

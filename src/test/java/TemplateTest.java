@@ -79,6 +79,15 @@ final class TemplateTest {
         c.x.undo();
         Catalog.same("origins come back", NONE, c.x.origin(0));
         results(c, 3, 0, 1, 0, 0);
+        c.merge("|Quit||").form(0, 0, 5, "Aus");
+        Catalog.same("an origin stays", 0, c.x.origin(0));
+        c.stage("|one||1").stage("x|two|three|2\n|four||").stage("|five||");
+        c.x.merge();
+        String[] keys = {"/one/", "x/two/three", "/four/", "/five/"};
+        for (int i = 0; i < keys.length; i++) {
+            Catalog.text("staged " + i, keys[i], c.part(i, 0) + "/" + c.part(i, 1) + "/" + c.part(i, 2));
+            Catalog.same("its limit", i == 0 ? 1 : i == 1 ? 2 : NONE, c.x.limit(i));
+        }
         // Another context, source or plural text is another message.
         Catalog d = new Catalog();
         d.x.setThreshold(0);
@@ -207,8 +216,25 @@ final class TemplateTest {
         Catalog.same("origin without forms", 0, c.x.origin(0));
         results(c, 0, 1, 0, 0, 0);
         Catalog.same("no forms", 0, c.x.state(0, 0));
-        c.form(0, 0, 5, "{1}");
-        Catalog.same("no mark", 0, c.x.mark(0, 0, false));
+        Catalog.same("no mark", 0, marksWithoutForms() ? 1 : 0);
+    }
+
+    /** Whether an origin without suitable forms makes another state than one without forms. */
+    private static boolean marksWithoutForms() {
+        long[] checksums = new long[2];
+        for (int i = 0; i < 2; i++) {
+            Catalog c = new Catalog().merge("|abcdefghijklmnop{0}||").form(0, 0, 5, "{0}");
+            for (int k = 0; k < 6; k++) {
+                c.x.setThreshold(60);
+            }
+            if (i == 1) {
+                c.x.untranslate(0, 0);
+            }
+            c.merge("|abcdefghijklmnop{1}||");
+            Catalog.same("origin " + i, i == 0 ? 0 : NONE, c.x.origin(0));
+            checksums[i] = c.x.checksum();
+        }
+        return checksums[0] != checksums[1];
     }
 
     private static void obsolete() {

@@ -154,6 +154,23 @@ final class TranslationTest {
         c.due("no width without forms", NONE, () -> c.x.formWidth(1, 0, 5));
         c.x.setWidth('n', 0);
         c.due("width with another character", 9, () -> c.x.formWidth(1, 1, 1));
+        c.x.setWidth(' ', 2);
+        c.due("width with a wide space", 10, () -> c.x.formWidth(1, 1, 1));
+        // The first category and the last one, in the first locale and the last one.
+        Catalog d = new Catalog();
+        d.x.addLocale(NONE);
+        d.x.addLocale(NONE);
+        for (int locale : new int[] {0, 3}) {
+            d.rules(locale, "zero: n = 0; many: n = 5");
+            d.form(locale, 1, 0, "zero" + locale).form(locale, 1, 5, "{0}" + locale).form(locale, 1, 4, "many" + locale);
+        }
+        for (int locale : new int[] {0, 3}) {
+            Catalog.text("zero", "zero" + locale, d.formText(locale, 1, 0));
+            Catalog.text("many", "many" + locale, d.formText(locale, 1, 4));
+            Catalog.text("other", "{0}" + locale, d.formText(locale, 1, 5));
+            d.due("ready", 3, () -> d.x.state(locale, 1));
+            d.due("three forms", 3, () -> d.x.untranslate(locale, 1));
+        }
     }
 
     private static void untranslating() {
