@@ -11,8 +11,42 @@ final class Catalog {
 
     private static int wrong = 0;
     private static int looked = 0;
+    private static String about = "";
 
     TranslationCatalog x = new TranslationCatalog();
+
+    /** Tells which sentence of a promise the answers from here on are about; it has to stand there. */
+    static void promise(int number, String sentence) {
+        quote("Promise " + number, sentence);
+    }
+
+    /** Tells which sentence of the terms the answers from here on are about; it has to stand there. */
+    static void term(String heading, String sentence) {
+        quote(heading, sentence);
+    }
+
+    private static void quote(String section, String sentence) {
+        about = section + ", \"" + sentence + "\"\n  ";
+        String text = Document.sections().getOrDefault(section, "");
+        same("the document says it", 1, text.contains(Document.even(sentence)) ? 1 : 0);
+    }
+
+    /** Three locales, five messages, and something of all that a call could spoil. */
+    static Catalog rich(String pad) {
+        Catalog c = new Catalog();
+        c.x.addLocale(1);
+        c.merge("|Quit||8\n|quit||\n|{0:d6} file|{0:d6} files|16\nmenu|Open {1:s9}||\n|Wait||");
+        c.form(0, 1, 5, "ende");
+        c.x.mark(0, 3, true);
+        c.x.setWidth('m', 2);
+        c.x.setThreshold(40);
+        c.x.setGrouping(2, ',', 2);
+        c.x.setNumber(3, -5);
+        c.pad("some text").x.setText(4);
+        c.stage("|staged {0}||7\nx|other|others|");
+        c.x.show(1, 2, 1);
+        return c.pad(pad);
+    }
 
     /** Empties the pad and types a text into it. */
     Catalog pad(String text) {
@@ -142,7 +176,7 @@ final class Catalog {
         looked++;
         if (due != got) {
             wrong++;
-            System.out.println(what + ": due is " + due + ", got " + got);
+            System.out.println(about + what + ": due is " + due + ", got " + got);
         }
     }
 
@@ -150,7 +184,7 @@ final class Catalog {
         looked++;
         if (!due.equals(got)) {
             wrong++;
-            System.out.println(what + ": due is \"" + due + "\", got \"" + got + "\"");
+            System.out.println(about + what + ": due is \"" + due + "\", got \"" + got + "\"");
         }
     }
 

@@ -2,6 +2,7 @@
 final class NewObjectTest {
     public static void main(String[] args) {
         Catalog c = new Catalog();
+        Catalog.term("EXCEPTIONS", "The constants: `NONE = -1`: Returned where there is no such value.");
         Catalog.same("NONE", -1, TranslationCatalog.NONE);
         Catalog.same("checksum", -8173276993191672226L, c.x.checksum());
         Catalog.same("pad", 0, c.x.clearPad());
@@ -12,6 +13,9 @@ final class NewObjectTest {
     }
 
     private static void locales(Catalog c) {
+        Catalog.term("AT FIRST", "There are two locales. Locale 0 has no parent, the rules \"one: n = 1\", "
+                + "the separator 46 and the group size 3. Locale 1 has the parent 0, the rules \"one: n % 10 = 1 "
+                + "and n % 100 != 11; few: n % 10 = 2..4 and n % 100 != 12..14\", the separator 32 and the group size 3.");
         Catalog.same("locales", 2, c.x.locales());
         Catalog.same("parent 0", -1, c.x.parent(0));
         Catalog.same("parent 1", 0, c.x.parent(1));
@@ -34,6 +38,12 @@ final class NewObjectTest {
     }
 
     private static void messages(Catalog c) {
+        Catalog.term("AT FIRST",
+                "There are three messages without marks; their forms are given as locale, category: pattern.");
+        Catalog.term("AT FIRST", "0: no context, source \"Quit\", limit 8. Forms: 0, 5: \"Ende\". "
+                + "1: no context, source \"{0:d6} file\", plural \"{0:d6} files\", limit 16. Forms: "
+                + "0, 1: \"{0} Datei\"; 0, 5: \"{0} Dateien\"; 1, 1: \"{0} fajl\"; 1, 3: \"{0} fajla\". "
+                + "2: context \"menu\", source \"Open {1:s9}\", no limit. Forms: 0, 5: \"{1} laden\".");
         Catalog.same("messages", 3, c.x.messages());
         String[][] parts = {
             {"", "Quit", ""}, {"", "{0:d6} file", "{0:d6} files"}, {"menu", "Open {1:s9}", ""}};
@@ -64,6 +74,8 @@ final class NewObjectTest {
                 }
             }
         }
+        Catalog.term("AT FIRST", "There is one obsolete message: no context, source \"Save {0:s9}\", no limit. "
+                + "Forms: 0, 5: \"{0} sichern\".");
         Catalog.same("obsolete", 1, c.x.obsolete());
         Catalog.text("obsolete 0", "Save {0:s9}", c.obsoleteText(0));
     }
@@ -75,6 +87,8 @@ final class NewObjectTest {
         for (int what = 0; what < 5; what++) {
             Catalog.same("merged " + what, 0, c.x.merged(what));
         }
+        Catalog.term("AT FIRST", "Argument 1 is the text \"log\"; the other arguments are not set. "
+                + "Nothing is staged, shown or saved.");
         Catalog fresh = new Catalog();
         Catalog.same("threshold", 30, fresh.x.setThreshold(30));
         fresh.x.undo();
