@@ -2040,8 +2040,9 @@ public final class TranslationCatalog {
             int count = 0;
             int first = old.messages.length;
             for (int p = first; p < used.length; p++) {
-                if (!used[p] && count < kept.length) {
-                    kept[count] = old.knownAt(p);
+                Message known = old.knownAt(p);
+                if (!used[p] && known != null && count < kept.length) {
+                    kept[count] = known;
                     count++;
                 }
             }

@@ -22,7 +22,10 @@ final class LanguageTest {
         String text = Files.readString(SOURCE);
         face(Files.readString(DOCUMENT));
         names();
+        types();
         words(text);
+        exceptions(text);
+        loops(text);
         sizes(text);
         Catalog.end();
     }
@@ -98,6 +101,74 @@ final class LanguageTest {
                 Catalog.same("parameters of " + method, 1, method.getParameterCount() <= 7 ? 1 : 0);
             }
         }
+    }
+
+    /** Rules 2, 3 and 5: classes inside are static and not public, fields have the types that are left. */
+    private static void types() {
+        Set<String> constants = Set.of("int", "long", "boolean", "char", "class java.lang.String",
+                "class [I", "class [J", "class [C", "class [B");
+        List<Class<?>> classes = new ArrayList<>(List.of(TranslationCatalog.class.getDeclaredClasses()));
+        for (Class<?> inside : classes) {
+            int modifiers = inside.getModifiers();
+            boolean hidden = !Modifier.isPublic(modifiers) && !Modifier.isProtected(modifiers);
+            Catalog.same(inside + " is static and hidden", 1, hidden && Modifier.isStatic(modifiers) ? 1 : 0);
+        }
+        classes.add(TranslationCatalog.class);
+        for (Class<?> each : classes) {
+            for (java.lang.reflect.Field field : each.getDeclaredFields()) {
+                boolean fixed = Modifier.isStatic(field.getModifiers());
+                boolean right = fixed ? constants.contains(field.getType().toString()) : isAllowed(field.getType());
+                Catalog.same("type of " + field, 1, right ? 1 : 0);
+                Catalog.same("a static one is final: " + field, 1,
+                        !fixed || Modifier.isFinal(field.getModifiers()) ? 1 : 0);
+            }
+            for (Method method : each.getDeclaredMethods()) {
+                boolean right = method.getReturnType() == void.class || isAllowed(method.getReturnType());
+                for (Class<?> parameter : method.getParameterTypes()) {
+                    right &= isAllowed(parameter);
+                }
+                Catalog.same("types of " + method, 1, right ? 1 : 0);
+            }
+        }
+    }
+
+    private static boolean isAllowed(Class<?> type) {
+        Class<?> element = type.isArray() ? type.getComponentType() : type;
+        boolean own = element.getName().startsWith("TranslationCatalog$");
+        return element.isPrimitive() || own || element == String.class && !type.isArray();
+    }
+
+    /** Rule 6: what is thrown, with a written text, and nothing in a constructor. */
+    private static void exceptions(String text) {
+        Matcher thrown = Pattern.compile("\\bthrow\\b[^;]*;").matcher(text);
+        Pattern right = Pattern.compile(
+                "throw new (IllegalState|IllegalArgument|IndexOutOfBounds)Exception\\(\"[^\"]+\"\\);");
+        int count = 0;
+        while (thrown.find()) {
+            count++;
+            Catalog.same(thrown.group(), 1, right.matcher(thrown.group()).matches() ? 1 : 0);
+        }
+        Catalog.same("throws found", 1, count > 20 ? 1 : 0);
+        Matcher constructor = Pattern.compile("(?m)^( +)(?:public |private )?[A-Z]\\w+\\([^)]*\\) \\{$").matcher(text);
+        while (constructor.find()) {
+            int end = text.indexOf("\n" + constructor.group(1) + "}", constructor.end());
+            String body = text.substring(constructor.end(), end);
+            Catalog.same("no throw in " + constructor.group().trim(), 0, body.contains("throw ") ? 1 : 0);
+        }
+    }
+
+    /** Rule 9: every loop has a bound in its head. */
+    private static void loops(String text) {
+        Matcher head = Pattern.compile("(?m)^ +(?:for|while) \\(.*").matcher(text);
+        int count = 0;
+        while (head.find()) {
+            count++;
+            boolean overRow = head.group().matches(" +for \\(\\w+ \\w+ : .*");
+            boolean bound = overRow || head.group().matches(".*( < | <= | >= ).*");
+            Catalog.same("bound of " + head.group().trim(), 1, bound ? 1 : 0);
+        }
+        Catalog.same("loops found", 1, count > 60 ? 1 : 0);
+        Catalog.same("do", 0, text.contains(" do {") ? 1 : 0);
     }
 
     /** Words and signs that rules 2 to 10 and 13 leave out. */

@@ -9,6 +9,7 @@ final class PadEdgeTest {
         readingLeavesIt();
         typing();
         clearing();
+        whatWasTypedBefore();
         faultKinds();
         faultOrNone();
         Catalog.end();
@@ -136,6 +137,23 @@ final class PadEdgeTest {
         c.pad("a".repeat(240));
         c.due("240", 240, () -> c.x.clearPad());
         c.due("there is room again", 1, () -> c.x.type('a'));
+    }
+
+    /** Of a text that was typed before, nothing is read behind the end of a shorter one. */
+    private static void whatWasTypedBefore() {
+        String[] texts = {"a{0:d12}{{}}{9:s40}b", "one: n % 10 != 11..12, 345 and n = 4 or n = 5; two: n = 2",
+            "one:n!=1..2", "zero:n=1;one:n=2;two:n=3;few:n=4;many:n=5", "c9|{0:d12}x{{|{0}}}y|123\n|b||\n|c||20",
+            "|a|b|\n|a|b|", "   ", "{{{{{{", "}}}}}}", "a".repeat(70)};
+        for (String text : texts) {
+            for (int kind = 0; kind < 4; kind++) {
+                for (int end = 0; end <= text.length(); end++) {
+                    Catalog c = new Catalog();
+                    c.fault(kind, text);
+                    String prefix = text.substring(0, end);
+                    Catalog.same(prefix + " as " + kind, new Catalog().fault(kind, prefix), c.fault(kind, prefix));
+                }
+            }
+        }
     }
 
     private static void faultKinds() {

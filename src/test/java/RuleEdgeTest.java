@@ -394,8 +394,13 @@ final class RuleEdgeTest {
         Catalog.same("not with the first rule's", 1, c.x.category(0, 1));
         c.rules(0, "few:n=1 and n!=1;one:n=2 or n=3;two:n=1");
         Catalog.same("the third rule", 2, c.x.category(0, 1));
-        c.rules(0, "");
+        c.rules(0, "one:n=1").rules(0, "");
         Catalog.same("no rule", 5, c.x.category(0, 1));
+        c.rules(0, "one:n=1;two:n=2;few:n=3").rules(0, "many:n=2");
+        int[] later = {5, 5, 4, 5};
+        for (int n = 0; n < later.length; n++) {
+            Catalog.same("of fewer rules, " + n, later[n], c.x.category(0, n));
+        }
     }
 
     private static void listOfCategories() {
