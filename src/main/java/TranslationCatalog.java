@@ -1881,7 +1881,10 @@ public final class TranslationCatalog {
         }
 
         private int distance(Pattern from, Pattern to) {
-            int columns = Math.min(to.tokens.length, MAX_PATTERN);
+            int columns = Math.min(to.tokens.length, Math.min(finished.length, begun.length) - 1);
+            if (columns < 0) {
+                return 0;
+            }
             finished[0] = 0;
             for (int j = 0; j < columns; j++) {
                 finished[j + 1] = finished[j] + stepCost(to.tokens[j]);

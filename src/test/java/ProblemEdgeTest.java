@@ -188,8 +188,12 @@ final class ProblemEdgeTest {
                 form("a" + literal, "b" + literal, "");
             }
         }
-        form("a.", "b!", "8/0/5");
-        form("a?", "b:", "8/0/5");
+        // Two different ones of them, too.
+        for (char one : signs.toCharArray()) {
+            for (char other : signs.toCharArray()) {
+                form("a" + one, "b" + other, one == other ? "" : "8/0/5");
+            }
+        }
         form("a.", "b..", "");
         form("a.b", "c!d", "");
         form("a. ", "b. ", "");
